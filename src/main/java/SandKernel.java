@@ -514,7 +514,6 @@ public final class SandKernel {
             if (!succeeds(OP_REMOVE, file, 0)) {
                 return false;
             }
-            clear(file);
             there[file] = false;
             return true;
         }

@@ -9,6 +9,7 @@ public final class CellsTest {
         seek();
         sync();
         cacheOrder();
+        usedAgain();
         failures();
         Runs.finish();
     }
@@ -149,6 +150,28 @@ public final class CellsTest {
                 open 1 1 1 = 0; open 1 2 1 = 1; read 1 0 = 0; seek 1 0 8 = 8; read 1 0 = 56; seek 1 0 16 = 16
                 read 1 0 = 112; seek 1 0 24 = 24; read 1 0 = 168; host 0 0 = END; read 1 1 = 0
                 log 1 = 1; log 0 = 16; host 0 0 = 4; host 0 1 = 5; host 0 2 = END; count 3 = 0
+                """);
+    }
+
+    private static void usedAgain() {
+        Runs.run("cache: nothing of blocks that left unwritten is seen in those that come", """
+                put 0 32 1 = 0; put 1 32 2 = 0; open 1 0 3 = 0; open 1 1 3 = 1
+                write 1 0 91 = 1; read 1 1 = 2; seek 1 0 8 = 8; write 1 0 92 = 1; seek 1 0 15 = 15; write 1 0 93 = 1
+                open 1 0 16 = 2; cached 0 = 1; cached 1 = REFUSED; seek 1 1 8 = 8; read 1 1 = 58; seek 1 1 16 = 16
+                read 1 1 = 114; cached 0 = 17; cached 1 = 9; cached 2 = 1; count 3 = 0; count 0 = 6
+                seek 1 1 1 = 1; read 1 1 = 9; seek 1 1 9 = 9; read 1 1 = 65; seek 1 1 17 = 17; read 1 1 = 121
+                write 1 0 94 = 1; seek 1 0 15 = 15; read 1 0 = 0; read 1 0 = 94; seek 1 0 9 = 9; read 1 0 = 0
+                """);
+        Runs.run("cache: cells of a block above LENGTH are 0, whatever was there before", """
+                put 0 8 1 = 0; put 1 32 2 = 0; open 1 0 3 = 0; open 1 1 1 = 1
+                seek 1 0 7 = 7; read 1 0 = 50; open 1 0 16 = 2; write 1 0 9 = 1; cached 0 = 40; seek 1 0 7 = 7
+                open 1 0 16 = 3; read 1 1 = 2; seek 1 1 8 = 8; read 1 1 = 58; crash = 0
+                open 1 0 3 = 0; open 1 0 3 = 1; write 1 0 1 = 1; write 1 0 2 = 1; write 1 0 3 = 1; open 1 0 16 = 2
+                write 1 0 4 = 1; count 0 = 6; read 1 1 = 0; read 1 1 = 0; read 1 1 = 0; read 1 1 = 4; read 1 1 = END
+                """);
+        Runs.run("5: a file where a pipe was open before", """
+                pipe 1 = 8; close 1 0 = 0; close 1 1 = 0; put 0 4 9 = 0; open 1 0 3 = 0; read 1 0 = 9; seek 1 0 3 = 3
+                put 0 1 1 = BUSY; open 1 0 3 = 1; read 1 1 = 9; write 1 1 5 = 1; sync 1 1 = 1
                 """);
     }
 

@@ -55,6 +55,11 @@ public final class ProcessTest {
                 fork 1 = 2; fork 2 = 3; exit 3 1 = 0; wait 1 = AGAIN; wait 2 = 11; wait 2 = BUSY; fork 1 = 3
                 wait 2 = BUSY; exit 3 2 = 0; wait 1 = 19
                 """);
+        Runs.run("15, 16, 17: the last number is as the others", """
+                fork 1 = 2; fork 1 = 3; fork 1 = 4; fork 1 = 5; fork 5 = 6; exit 6 3 = 0; wait 1 = AGAIN; exit 5 2 = 0
+                wait 1 = 21; wait 1 = 30; fork 1 = 5; fork 5 = 6; wait 5 = AGAIN; exit 6 1 = 0; wait 5 = 14
+                fork 5 = 6; pipe 6 = 8; crash = 0; count 2 = 1; count 1 = 0; fork 6 = REFUSED
+                """);
         Runs.run("16: wrong numbers", """
                 wait 0 = REFUSED; wait 2 = REFUSED; wait 7 = REFUSED; wait -2147483648 = REFUSED
                 fork 1 = 2; fork 2 = 3; exit 2 0 = 0; wait 2 = REFUSED
