@@ -133,7 +133,7 @@ public final class SandKernel {
         int second = task.freeFrom(first + 1);
         int reader = unusedFrom(0);
         int writer = unusedFrom(reader + 1);
-        if (second == NONE || writer == NONE) {
+        if (first == NONE || second == NONE || reader == NONE || writer == NONE) {
             return FULL;
         }
         Pipe made = new Pipe();
@@ -451,8 +451,9 @@ public final class SandKernel {
         private final int[] lengths = new int[FILES];
         /** All files' cells, one file behind the other; those at or above a file's length are 0. */
         private final int[] cells = new int[FILES * FILE_CELLS];
-        /** The newest entries, operation n at n % LOG_ENTRIES: no call asks for older ones. */
+        /** The newest entries, in a ring: no call asks for older ones. */
         private final int[] entries = new int[LOG_ENTRIES];
+        private int newest = 0;
         private int operations = 0;
         private int leftToFail = 0;
 
@@ -473,7 +474,7 @@ public final class SandKernel {
         }
 
         int entryAt(int age) {
-            return entries[(operations - 1 - age) % LOG_ENTRIES];
+            return entries[(newest + LOG_ENTRIES - age) % LOG_ENTRIES];
         }
 
         int leftToFail() {
@@ -550,7 +551,8 @@ public final class SandKernel {
         private boolean succeeds(int operation, int file, int block) {
             boolean fails = leftToFail > 0;
             int entry = operation + 8 * file + 64 * block;
-            entries[operations % LOG_ENTRIES] = fails ? entry + 256 : entry;
+            newest = (newest + 1) % LOG_ENTRIES;
+            entries[newest] = fails ? entry + 256 : entry;
             operations++;
             if (fails) {
                 leftToFail--;

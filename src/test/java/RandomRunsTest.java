@@ -22,7 +22,7 @@ public final class RandomRunsTest {
 
     private static void oneRun(int seed) {
         Random random = new Random(seed);
-        int[] weights = WEIGHTS[seed % WEIGHTS.length];
+        int[] weights = weights(seed);
         Kernel program = Kernel.ofProgram();
         Kernel model = new Model();
         for (int i = 0; i < CALLS; i++) {
@@ -38,7 +38,11 @@ public final class RandomRunsTest {
         }
     }
 
-    private static int chosen(Random random, int[] weights) {
+    static int[] weights(int seed) {
+        return WEIGHTS[seed % WEIGHTS.length];
+    }
+
+    static int chosen(Random random, int[] weights) {
         int left = random.nextInt(Arrays.stream(weights).sum());
         int call = 0;
         while (left >= weights[call]) {
@@ -48,7 +52,7 @@ public final class RandomRunsTest {
         return call;
     }
 
-    private static int[] numbersFor(Random random, int call) {
+    static int[] numbersFor(Random random, int call) {
         int[] numbers = new int[Kernel.NUMBERS[call]];
         for (int i = 0; i < numbers.length; i++) {
             numbers[i] = random.nextInt(60) == 0

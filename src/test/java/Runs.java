@@ -13,19 +13,19 @@ final class Runs {
     private Runs() {
     }
 
+    /** Also runs the model, so that a wrong answer there does not hide behind a right one here. */
     static void run(String title, String text) {
-        Kernel kernel = Kernel.ofProgram();
-        for (String row : text.split("[;\n]")) {
-            if (!row.isBlank()) {
-                String[] sides = row.split("=");
-                String[] words = sides[0].trim().split(" +");
-                int[] numbers = new int[words.length - 1];
-                for (int i = 0; i < numbers.length; i++) {
-                    numbers[i] = Integer.parseInt(words[i + 1]);
-                }
-                due(title + ": " + sides[0].trim(), answerOf(kernel, words[0], numbers), value(sides[1].trim()));
-            }
+        run(title, text, Kernel.ofProgram());
+        run("the model, " + title, text, new Model());
+    }
+
+    /** The row once for each number from .. to, which stands in the place of '#'. */
+    static String each(int from, int to, String row) {
+        StringBuilder all = new StringBuilder();
+        for (int i = from; i <= to; i++) {
+            all.append(row.replace("#", Integer.toString(i))).append("\n");
         }
+        return all.toString();
     }
 
     static void due(String what, long got, long want) {
@@ -48,13 +48,49 @@ final class Runs {
         }
     }
 
-    private static long answerOf(Kernel kernel, String call, int[] numbers) {
+    /** Makes the calls of a text on an object, whatever they answer. */
+    static void replay(String text, Kernel kernel) {
+        for (String row : text.split("[;\n]")) {
+            if (!row.isBlank()) {
+                String[] words = words(row);
+                answerOf(kernel, words[0], numbers(words));
+            }
+        }
+    }
+
+    /** What a call answers, or Long.MIN_VALUE if it throws. */
+    static long answerOf(Kernel kernel, String call, int[] numbers) {
         try {
             return kernel.answer(call, numbers);
         } catch (RuntimeException e) {
             System.out.println(call + " threw " + e);
             return Long.MIN_VALUE;
         }
+    }
+
+    private static void run(String title, String text, Kernel kernel) {
+        int calls = 0;
+        for (String row : text.split("[;\n]")) {
+            if (!row.isBlank()) {
+                calls++;
+                String[] words = words(row);
+                String what = title + ": " + row.trim();
+                due(what, answerOf(kernel, words[0], numbers(words)), value(row.split("=")[1].trim()));
+            }
+        }
+        isTrue(title + ": " + calls + " calls, of which an object promises 512", calls <= 512);
+    }
+
+    private static String[] words(String row) {
+        return row.split("=")[0].trim().split(" +");
+    }
+
+    private static int[] numbers(String[] words) {
+        int[] numbers = new int[words.length - 1];
+        for (int i = 0; i < numbers.length; i++) {
+            numbers[i] = Integer.parseInt(words[i + 1]);
+        }
+        return numbers;
     }
 
     private static long value(String text) {
