@@ -38,7 +38,7 @@ public final class FaceTest {
                 int m = field.getModifiers();
                 Runs.isTrue(field + " is a constant", Modifier.isPublic(m) && Modifier.isStatic(m)
                         && Modifier.isFinal(m) && field.getType() == int.class);
-                Runs.due(field.getName(), field.getInt(null), -1 - names.indexOf(field.getName()));
+                Runs.due("Terms: " + field.getName(), field.getInt(null), -1 - names.indexOf(field.getName()));
             }
         }
         Runs.isTrue("the constants are " + seen, seen.equals(new TreeSet<>(names)));

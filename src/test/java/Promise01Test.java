@@ -1,3 +1,5 @@
+import java.util.Random;
+
 /** Promise 1: a new object. */
 public final class Promise01Test {
     public static void main(String[] args) {
@@ -16,17 +18,26 @@ public final class Promise01Test {
         Runs.finish();
     }
 
+    /** Two objects are called in turn, each with a run of its own, and a third is made in the midst. */
     private static void objectsShareNothing() {
-        Kernel used = Kernel.ofProgram();
-        Kernel other = Kernel.ofProgram();
-        Runs.replay(States.FIVE_BLOCKS + "fork 1 = 2; policy 3 0 = 0; failing 4 = 0; open 1 2 8 = BROKEN", used);
-        for (Kernel kernel : new Kernel[] {other, Kernel.ofProgram()}) {
-            for (int what = 0; what <= 4; what++) {
-                Runs.due("1: another object: count " + what, kernel.answer("count", new int[] {what}), what == 2 ? 1 : 0);
+        Kernel[] programs = {Kernel.ofProgram(), Kernel.ofProgram()};
+        Kernel[] models = {new Model(), new Model()};
+        Random random = new Random(1);
+        for (int i = 0; i < 2 * 512; i++) {
+            int call = RandomRunsTest.chosen(random, RandomRunsTest.weights(0));
+            int[] numbers = RandomRunsTest.numbersFor(random, call);
+            String what = "1: object " + i % 2 + " of two, call " + i / 2 + ": " + Kernel.CALLS[call];
+            int want = models[i % 2].answer(Kernel.CALLS[call], numbers);
+            Runs.due(what, programs[i % 2].answer(Kernel.CALLS[call], numbers), want);
+            if (i == 512) {
+                Runs.run("1: an object made while others are in use", Runs.each(0, 7, "host # 0 = ABSENT; open 1 # 24 = 0; close 1 0 = 0"));
             }
-            Runs.due("1: another object: host 0 0", kernel.answer("host", new int[] {0, 0}), SandKernel.ABSENT);
-            Runs.due("1: another object: open 1 3 8", kernel.answer("open", new int[] {1, 3, 8}), 0);
         }
-        Runs.due("1: the first one goes on", used.answer("count", new int[] {4}), 3);
+        for (int entry = 0; entry < 16; entry++) {
+            for (int i = 0; i < 2; i++) {
+                int want = models[i].answer("log", new int[] {entry});
+                Runs.due("1: object " + i + " of two: log " + entry, programs[i].answer("log", new int[] {entry}), want);
+            }
+        }
     }
 }

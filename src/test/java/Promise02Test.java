@@ -26,6 +26,13 @@ public final class Promise02Test {
                 put 4 32 1 = 0; put 4 2 100 = 0; open 1 4 3 = 0; seek 1 0 2 = 2; write 1 0 9 = 1; read 1 0 = END
                 sync 1 0 = 1; host 4 1 = 107; host 4 2 = 9; host 4 3 = END
                 """);
+        Runs.run("2: nor when the host's length comes to be above them", """
+                put 0 32 1 = 0; put 0 4 200 = 0; put 1 32 0 = 0; open 1 0 7 = 0; open 1 1 1 = 1
+                """ + Runs.each(1, 5, "write 1 0 # = 1") + """
+                seek 1 0 0 = 0; read 1 0 = 200; read 1 1 = 0; seek 1 1 8 = 8; read 1 1 = 56; seek 1 1 16 = 16; read 1 1 = 112
+                seek 1 1 24 = 24; read 1 1 = 168; log 1 = 65; host 0 8 = 5; host 0 9 = END; host 0 3 = 221
+                host 0 4 = 0; host 0 5 = 0; host 0 6 = 0; host 0 7 = 0; sync 1 0 = 1; host 0 4 = 1; host 0 7 = 4
+                """);
         busyWhileOpen();
         busyWhileCached();
         Runs.run("2: REFUSED before BUSY", "put 4 8 1 = 0; open 1 4 1 = 0; put 4 33 1 = REFUSED; put 4 32 1 = BUSY");

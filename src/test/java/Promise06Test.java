@@ -24,6 +24,7 @@ public final class Promise06Test {
         Runs.run("6: sixteen: FULL, until two are gone", States.FOURTEEN_OPENINGS + """
                 pipe 3 = 26; count 1 = 16; pipe 4 = FULL; close 3 0 = 0; pipe 4 = FULL; close 1 5 = 0; pipe 4 = 8; count 1 = 16
                 """);
+        anyTwoOfSixteen();
         Runs.run("6: a new pipe is empty", """
                 pipe 1 = 8; write 1 1 5 = 1; close 1 0 = 0; close 1 1 = 0; pipe 1 = 8; read 1 0 = AGAIN
                 """);
@@ -37,5 +38,19 @@ public final class Promise06Test {
                 """);
         Runs.run("6: no operation", "failing 1 = 0; pipe 1 = 8; count 0 = 0; count 4 = 1");
         Runs.finish();
+    }
+
+    /** Whichever two of sixteen openings are gone, a pipe takes their place. */
+    private static void anyTwoOfSixteen() {
+        String[] openings = {
+            "1 0", "1 1", "1 2", "1 3", "1 4", "1 5", "2 0", "2 1", "2 2", "2 3", "2 4", "2 5", "3 0", "3 1", "3 2", "3 3"
+        };
+        for (int i = 0; i < openings.length; i++) {
+            for (int j = 0; j < i; j++) {
+                Runs.run("6: sixteen, but " + openings[i] + " and " + openings[j] + " are closed", States.FOURTEEN_OPENINGS
+                        + "pipe 3 = 26; close " + openings[i] + " = 0; pipe 4 = FULL; close " + openings[j] + " = 0\n"
+                        + "pipe 4 = 8; count 1 = 16; pipe 4 = FULL; write 4 1 5 = 1; read 4 0 = 5; read 4 0 = AGAIN");
+            }
+        }
     }
 }

@@ -26,6 +26,11 @@ public final class Promise17Test {
                 open 1 0 11 = 0; write 1 0 50 = 1; crash = 0; open 1 0 3 = 0; seek 1 0 1 = REFUSED; read 1 0 = END
                 write 1 0 51 = 1; count 0 = 1; seek 1 0 0 = 0; read 1 0 = 51
                 """);
+        Runs.run("17: LENGTH is the host's, 0 of a file that was made or emptied", """
+                open 1 0 15 = 0; write 1 0 50 = 1; put 1 9 9 = 0; open 1 1 16 = 1; crash = 0; open 1 0 7 = 0; open 1 1 7 = 1
+                seek 1 0 0 = 0; seek 1 0 1 = REFUSED; seek 1 1 0 = 0; seek 1 1 1 = REFUSED; write 1 0 5 = 1; write 1 1 6 = 1
+                seek 1 0 0 = 0; read 1 0 = 5; read 1 0 = END; seek 1 1 0 = 0; read 1 1 = 6; read 1 1 = END
+                """);
         Runs.run("17: LENGTH is the host's, also after a part was written", """
                 open 1 7 11 = 0; write 1 0 1 = 1; sync 1 0 = 1; write 1 0 2 = 1; crash = 0; open 1 7 7 = 0; write 1 0 3 = 1
                 seek 1 0 0 = 0; read 1 0 = 1; read 1 0 = 3; read 1 0 = END
