@@ -29,8 +29,7 @@ public final class FaceTest {
     }
 
     private static void constants() throws IllegalAccessException {
-        List<String> names = List.of(
-                "REFUSED", "FULL", "CLOSED", "ABSENT", "DENIED", "AGAIN", "END", "BROKEN", "BUSY");
+        List<String> names = Runs.CONSTANTS;
         Set<String> seen = new TreeSet<>();
         for (Field field : SandKernel.class.getDeclaredFields()) {
             if (!isPrivate(field)) {

@@ -9,7 +9,23 @@ interface Kernel {
     };
     int[] NUMBERS = {3, 2, 1, 3, 1, 2, 3, 3, 2, 2, 2, 2, 1, 2, 1, 0, 2, 1, 1, 1};
 
+    /** As many calls as the document promises answers of one object. */
+    int PROMISED = 512;
+
+    /** A new object of the program; a call that the document leaves free is a fault of the test. */
     static Kernel ofProgram() {
+        Kernel program = ofProgramForEver();
+        int[] calls = {0};
+        return (call, n) -> {
+            calls[0]++;
+            if (calls[0] > PROMISED) {
+                throw new AssertionError("the test makes more than " + PROMISED + " calls");
+            }
+            return program.answer(call, n);
+        };
+    }
+
+    static Kernel ofProgramForEver() {
         SandKernel x = new SandKernel();
         return (call, n) -> switch (call) {
             case "put" -> x.put(n[0], n[1], n[2]);

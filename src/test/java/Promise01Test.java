@@ -23,13 +23,14 @@ public final class Promise01Test {
         Kernel[] programs = {Kernel.ofProgram(), Kernel.ofProgram()};
         Kernel[] models = {new Model(), new Model()};
         Random random = new Random(1);
-        for (int i = 0; i < 2 * 512; i++) {
+        int calls = Kernel.PROMISED - 16;
+        for (int i = 0; i < 2 * calls; i++) {
             int call = RandomRunsTest.chosen(random, RandomRunsTest.weights(0));
             int[] numbers = RandomRunsTest.numbersFor(random, call);
             String what = "1: object " + i % 2 + " of two, call " + i / 2 + ": " + Kernel.CALLS[call];
             int want = models[i % 2].answer(Kernel.CALLS[call], numbers);
             Runs.due(what, programs[i % 2].answer(Kernel.CALLS[call], numbers), want);
-            if (i == 512) {
+            if (i == calls) {
                 Runs.run("1: an object made while others are in use", Runs.each(0, 7, "host # 0 = ABSENT; open 1 # 24 = 0; close 1 0 = 0"));
             }
         }

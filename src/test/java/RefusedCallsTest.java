@@ -18,12 +18,15 @@ public final class RefusedCallsTest {
     private static final int[] POLICIES = {-1, 0, 1, 2, 3, Integer.MAX_VALUE, Integer.MIN_VALUE};
     private static final int[] TO_FAIL = {-1, 0, 1, 9, 10, Integer.MAX_VALUE, Integer.MIN_VALUE};
     private static final int[] VIEWS = {-1, 0, 1, 4, 5, 15, 16, Integer.MAX_VALUE, Integer.MIN_VALUE};
+    /** How many parts probe has, and how many calls leave room for its longest one. */
+    private static final int PARTS = 4;
+    private static final int CALLS_BEFORE_PROBE = 160;
 
     public static void main(String[] args) {
         for (Map.Entry<String, String> state : states().entrySet()) {
             everyCallIn(state.getKey(), state.getValue());
         }
-        for (int seed = 0; seed < 300; seed++) {
+        for (int seed = 0; seed < 1200; seed++) {
             leftOut(seed);
         }
         Runs.finish();
@@ -47,7 +50,10 @@ public final class RefusedCallsTest {
     }
 
     private static void everyCallIn(String name, String state) {
-        String untouched = probe(reached(state));
+        String[] untouched = new String[PARTS];
+        for (int part = 0; part < PARTS; part++) {
+            untouched[part] = probe(part, Runs.replay(state, Kernel.ofProgram()));
+        }
         for (int call = 0; call < Kernel.CALLS.length; call++) {
             int[][] ranges = new int[Kernel.NUMBERS[call]][];
             for (int i = 0; i < ranges.length; i++) {
@@ -64,24 +70,19 @@ public final class RefusedCallsTest {
         }
     }
 
-    private static void oneCall(String name, String state, String call, int[] numbers, String untouched) {
+    private static void oneCall(String name, String state, String call, int[] numbers, String[] untouched) {
         String what = "in the state '" + name + "': " + call + " " + Arrays.toString(numbers);
-        Kernel program = reached(state);
-        Kernel model = new Model();
-        Runs.replay(state, model);
-        long got = Runs.answerOf(program, call, numbers);
-        Runs.due(what, got, Runs.answerOf(model, call, numbers));
-        String after = probe(program);
-        Runs.isTrue(what + " leaves the state that the model has", after.equals(probe(model)));
-        if (got < 0 && got != SandKernel.BROKEN) {
-            Runs.isTrue("Terms: " + what + " answered below 0 and changes nothing", after.equals(untouched));
+        for (int part = 0; part < PARTS; part++) {
+            Kernel program = Runs.replay(state, Kernel.ofProgram());
+            Kernel model = Runs.replay(state, new Model());
+            long got = Runs.answerOf(program, call, numbers);
+            Runs.due(what, got, Runs.answerOf(model, call, numbers));
+            String after = probe(part, program);
+            Runs.isTrue(what + " leaves the state that the model has", after.equals(probe(part, model)));
+            if (got < 0 && got != SandKernel.BROKEN) {
+                Runs.isTrue("Terms: " + what + " answered below 0 and changes nothing", after.equals(untouched[part]));
+            }
         }
-    }
-
-    private static Kernel reached(String state) {
-        Kernel kernel = Kernel.ofProgram();
-        Runs.replay(state, kernel);
-        return kernel;
     }
 
     /** Counts at[] up through all places of the ranges; false behind the last. */
@@ -110,11 +111,29 @@ public final class RefusedCallsTest {
         };
     }
 
-    /** The answers to calls that bring all of the state to light, the views first, as the others change it. */
-    private static String probe(Kernel kernel) {
+    /** The answers to calls that bring a part of the state to light; all of it is more than 512 calls tell. */
+    private static String probe(int part, Kernel kernel) {
         StringBuilder seen = new StringBuilder();
+        switch (part) {
+            case 0 -> hostCells(kernel, seen);
+            case 1 -> descriptors(kernel, seen, 1, 3);
+            case 2 -> descriptors(kernel, seen, 4, 6);
+            default -> filesAndProcesses(kernel, seen);
+        }
         views(kernel, seen);
-        for (int process = 1; process <= 6; process++) {
+        return seen.toString();
+    }
+
+    private static void hostCells(Kernel kernel, StringBuilder seen) {
+        for (int file = 0; file <= 7; file++) {
+            for (int i = 0; i <= 32; i++) {
+                ask(kernel, seen, "host", file, i);
+            }
+        }
+    }
+
+    private static void descriptors(Kernel kernel, StringBuilder seen, int from, int to) {
+        for (int process = from; process <= to; process++) {
             for (int descriptor = 0; descriptor <= 5; descriptor++) {
                 ask(kernel, seen, "read", process, descriptor);
                 ask(kernel, seen, "write", process, descriptor, 200);
@@ -126,7 +145,9 @@ public final class RefusedCallsTest {
             }
             ask(kernel, seen, "pipe", process);
         }
-        views(kernel, seen);
+    }
+
+    private static void filesAndProcesses(Kernel kernel, StringBuilder seen) {
         for (int file = 0; file <= 7; file++) {
             ask(kernel, seen, "open", 1, file, 3);
             ask(kernel, seen, "close", 1, 0);
@@ -139,18 +160,14 @@ public final class RefusedCallsTest {
             ask(kernel, seen, "fork", 1);
             ask(kernel, seen, "wait", 1);
         }
-        views(kernel, seen);
-        return seen.toString();
+        hostCells(kernel, seen);
     }
 
     private static void views(Kernel kernel, StringBuilder seen) {
-        for (int file = 0; file <= 7; file++) {
-            for (int i = 0; i <= 32; i++) {
-                ask(kernel, seen, "host", file, i);
-            }
-        }
-        for (int i = 0; i <= 16; i++) {
+        for (int i = 0; i <= 15; i++) {
             ask(kernel, seen, "log", i);
+        }
+        for (int i = 0; i <= 4; i++) {
             ask(kernel, seen, "cached", i);
             ask(kernel, seen, "count", i);
         }
@@ -166,7 +183,7 @@ public final class RefusedCallsTest {
         Kernel all = Kernel.ofProgram();
         Kernel some = Kernel.ofProgram();
         int[] weights = RandomRunsTest.weights(seed);
-        for (int i = 0; i < 512; i++) {
+        for (int i = 0; i < CALLS_BEFORE_PROBE; i++) {
             int call = RandomRunsTest.chosen(random, weights);
             int[] numbers = RandomRunsTest.numbersFor(random, call);
             int answer = all.answer(Kernel.CALLS[call], numbers);
@@ -175,6 +192,7 @@ public final class RefusedCallsTest {
                 Runs.due("Terms: seed " + seed + ", call " + i + ", where refused calls were made", answer, other);
             }
         }
-        Runs.isTrue("Terms: seed " + seed + ": refused calls change nothing", probe(all).equals(probe(some)));
+        int part = seed % PARTS;
+        Runs.isTrue("Terms: seed " + seed + ": refused calls change nothing", probe(part, all).equals(probe(part, some)));
     }
 }

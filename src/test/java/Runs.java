@@ -1,3 +1,4 @@
+import java.util.ArrayList;
 import java.util.List;
 
 /**
@@ -5,7 +6,8 @@ import java.util.List;
  * that is due (a number or a constant's name); rows may stand on one line, parted by ';'.
  */
 final class Runs {
-    private static final List<String> CONSTANTS = List.of(
+    /** The document's constants, -1 first. */
+    static final List<String> CONSTANTS = List.of(
             "REFUSED", "FULL", "CLOSED", "ABSENT", "DENIED", "AGAIN", "END", "BROKEN", "BUSY");
     private static int wrong = 0;
     private static int rows = 0;
@@ -49,13 +51,12 @@ final class Runs {
     }
 
     /** Makes the calls of a text on an object, whatever they answer. */
-    static void replay(String text, Kernel kernel) {
-        for (String row : text.split("[;\n]")) {
-            if (!row.isBlank()) {
-                String[] words = words(row);
-                answerOf(kernel, words[0], numbers(words));
-            }
+    static Kernel replay(String text, Kernel kernel) {
+        for (String row : rowsOf(text)) {
+            String[] words = words(row);
+            answerOf(kernel, words[0], numbers(words));
         }
+        return kernel;
     }
 
     /** What a call answers, or Long.MIN_VALUE if it throws. */
@@ -69,16 +70,20 @@ final class Runs {
     }
 
     private static void run(String title, String text, Kernel kernel) {
-        int calls = 0;
+        for (String row : rowsOf(text)) {
+            String[] words = words(row);
+            due(title + ": " + row, answerOf(kernel, words[0], numbers(words)), value(row.split("=")[1].trim()));
+        }
+    }
+
+    private static List<String> rowsOf(String text) {
+        List<String> rows = new ArrayList<>();
         for (String row : text.split("[;\n]")) {
             if (!row.isBlank()) {
-                calls++;
-                String[] words = words(row);
-                String what = title + ": " + row.trim();
-                due(what, answerOf(kernel, words[0], numbers(words)), value(row.split("=")[1].trim()));
+                rows.add(row.trim());
             }
         }
-        isTrue(title + ": " + calls + " calls, of which an object promises 512", calls <= 512);
+        return rows;
     }
 
     private static String[] words(String row) {
@@ -93,7 +98,7 @@ final class Runs {
         return numbers;
     }
 
-    private static long value(String text) {
+    static long value(String text) {
         int at = CONSTANTS.indexOf(text);
         return at >= 0 ? -1 - at : Long.parseLong(text);
     }

@@ -1,7 +1,5 @@
 /** 'What it is' promises 512 calls of one object; what later calls answer is free, but none may throw. */
 public final class WhatItIsTest {
-    private static final int PROMISED = 512;
-
     public static void main(String[] args) {
         fullRun("operations", "open 1 # 24 = 0", "close 1 0 = 0");
         fullRun("pipes", "pipe 1 = 8", "write 1 1 # = 1", "read 1 0 = #", "close 1 0 = 0", "close 1 1 = 0");
@@ -15,7 +13,7 @@ public final class WhatItIsTest {
     /** Rows again and again to the 512th call, '#' going through 0 .. 7 and '-' being 2 + 8 * that. */
     private static void fullRun(String title, String... rows) {
         StringBuilder text = new StringBuilder();
-        for (int call = 0; call < PROMISED; call++) {
+        for (int call = 0; call < Kernel.PROMISED; call++) {
             int n = call / rows.length % 8;
             text.append(rows[call % rows.length].replace("#", "" + n).replace("-", "" + (2 + 8 * n))).append("\n");
         }
@@ -23,7 +21,7 @@ public final class WhatItIsTest {
     }
 
     private static void manyMoreCalls() {
-        Kernel kernel = Kernel.ofProgram();
+        Kernel kernel = Kernel.ofProgramForEver();
         int[] wild = {-1, 0, 1, 2, 3, 5, 6, 7, 8, 11, 27, 31, 32, 33, Integer.MAX_VALUE, Integer.MIN_VALUE};
         int state = 1;
         for (int i = 0; i < 300_000; i++) {
